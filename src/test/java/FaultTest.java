@@ -228,8 +228,59 @@ public final class FaultTest {
         DUE.is("no place", x.fault(1), -1);
     }
 
+    private static void ownWords() {
+        for (String own : ("person right left holds seam paper thumb box duds hats pull slip bang arm low other number wins"
+            + " or and not all min max").split(" ")) {
+            at(1, "person ^" + own + " right 1 left 1;");
+            at(1, "box ^" + own + " duds 1;");
+            at(1, "hats ^" + own + " 1;");
+            at(1, "holds ^" + own);
+        }
+        for (String other : "first last often total most least".split(" ")) {
+            fine("person " + other + " right 1 left 1;hats " + other + " 2;", 2);
+        }
+    }
+
+    /** What one text left open, or left unfinished, is nothing to the next one. */
+    private static void oneBehindAnother() {
+        CrackerRing x = Due.with(Due.people(1, 2, 3, 4));
+        for (int i = 0; i < 10; i++) {
+            DUE.is("left open", Due.ask(x, "total ((((((1"), CrackerRing.NOTHING);
+            DUE.is("left open", x.fault(1), 13);
+            DUE.is("left open", Due.table(x, "pull (((((("), -1);
+            DUE.is("left open", x.fault(1), 11);
+            DUE.is("a word at the end", Due.ask(x, "total hats"), 0);
+            DUE.is("a number ahead", Due.ask(x, "1"), CrackerRing.NOTHING);
+            DUE.is("a number ahead", x.fault(1), 0);
+            DUE.is("six again", Due.ask(x, "total ((((((1))))))"), 2);
+        }
+        DUE.is("six again", Due.table(x, "pull ((((((1))))));"), 1);
+    }
+
+    private static void longTexts() {
+        for (String sign : new String[] {";", "(", "#"}) {
+            table(sign.repeat(1600), 1, 0);
+        }
+        table("pull " + "-".repeat(1595), 1, 5);
+        table(" ".repeat(1600 - 4) + "bang", 1, 1600);
+        table("a".repeat(1600), 1, 0);
+        table("pull " + "1".repeat(1595), 1, 9);
+        fine(" ".repeat(1600), 0);
+        fine("pull " + "1+".repeat(796) + "1 ;", 1);
+        CrackerRing x = Due.with(Due.people(1, 2, 3, 4));
+        DUE.is("many are added", Due.ask(x, "most " + "1+".repeat(797) + "1"), 798);
+        DUE.is("many are taken away", Due.ask(x, "least " + "1-".repeat(796) + "1"), -795);
+        DUE.is("many at once", Due.ask(x, "often " + "all and ".repeat(199) + "1"), CrackerRing.NOTHING);
+        DUE.is("the text's length", x.fault(1), 1599);
+        DUE.is("many at once", Due.ask(x, "often " + "all and ".repeat(198) + "all"), 2);
+        DUE.is("many at once", Due.ask(x, "often " + "1>1 or ".repeat(227) + "1=1"), 2);
+    }
+
     public static void main(String[] args) {
         words();
+        ownWords();
+        oneBehindAnother();
+        longTexts();
         numbers();
         names();
         sums();

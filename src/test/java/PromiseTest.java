@@ -1,6 +1,8 @@
 /** Each promise by hand: ordinary calls, the edges that the document names, and wrong calls. */
 public final class PromiseTest {
     private static final Due DUE = new Due("PromiseTest");
+    /** A seed by which the first DRAW of 10000 is 0. */
+    private static final int FIRST_ZERO = 7755;
     private static final String TWO = Due.people(6, 4, 3, 2);
     private static final String THREE = "person ann right 6 left 4;person bob right 3 left 2;person cid right 9 left 9;";
 
@@ -239,6 +241,14 @@ public final class PromiseTest {
         DUE.is("13: three of six", Due.with(Due.people(1, 1, 1, 1, 1, 1, 1, 1, 1, 1, 1, 1)).most(), 3);
         DUE.is("13: three of seven", Due.with(Due.people(1, 1, 1, 1, 1, 1, 1, 1, 1, 1, 1, 1, 1, 1)).most(), 3);
         DUE.is("13: no CRACKER", new CrackerRing().most(), -1);
+        // by 1 of 10000 a CRACKER goes the other way
+        x = Due.with(Due.people(1, 2, 0, 99) + "slip max(0,2-arm)*min(1,arm)*99;");
+        DUE.is("10: right", x.cracker(0, 4), 1);
+        DUE.is("13: seldom", x.most(), 1);
+        DUE.is("13: never", Due.with(Due.people(0, 2, 0, 99)).most(), 0);
+        x = Due.with(Due.people(99, 0, 9, 1) + "slip max(0,2-arm)*min(1,arm)*99;");
+        DUE.is("10: left", x.cracker(0, 5), 1);
+        DUE.is("13: seldom", x.most(), 1);
         // the left HANDS alone slip, a right one at 100 has its CRACKER never
         DUE.is("13: none under the table", Due.with(Due.people(1, 1, 1, 1) + "slip 100*seam;holds a left paper 5;holds b left paper 5;").most(), 0);
     }
@@ -623,6 +633,22 @@ public final class PromiseTest {
         DUE.is("22: the second one bangs", x.dine(1), 1);
         DUE.is("22: a has the first one", x.seat(0, 1), 1);
         DUE.is("22: b has the second one", x.seat(1, 1), 1);
+        // right 96 * 2 = 192, which the DRAW is not below; 9800 more are the left one's
+        x = Due.with(Due.people(0, 1, 0, 1) + "slip 2+2*(1-min(1,arm));");
+        DUE.is("10: right", x.cracker(0, 4), 192);
+        x.seed(0);
+        x.dine(1);
+        DUE.is("22: not below it", x.seat(1, 1) > 0, true);
+        // by seed FIRST_ZERO the first DRAW is 0, which is not below 0
+        x = Due.with(Due.people(0, 0, 0, 0) + "slip 100;");
+        x.seed(FIRST_ZERO);
+        x.dine(1);
+        DUE.is("22: not below both together", x.has(6), 2);
+        DUE.is("22: not below both together", x.has(7), 0);
+        x = Due.with(Due.people(0, 1, 0, 1));
+        x.seed(FIRST_ZERO);
+        x.dine(1);
+        DUE.is("22: the left ones", x.seat(0, 1) + 10 * x.seat(1, 1), 11);
         x = Due.with(Due.people(1, 0, 1, 99) + "bang 20;");
         x.seed(0);
         DUE.is("22: none bangs", x.dine(1), 0);
