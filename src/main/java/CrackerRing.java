@@ -1519,19 +1519,20 @@ public final class CrackerRing {
             }
             known = true;
             rested.copyFrom(state);
-            for (round = 1; round <= HOLDING_ROUNDS; round++) {
+            round = HOLDING_ROUNDS + 1;
+            for (int n = 1; n <= HOLDING_ROUNDS && round > HOLDING_ROUNDS; n++) {
                 int others = 0;
-                for (int turn = 0; turn < HANDS * rested.people; turn++) {
-                    findBest(rested, turn / HANDS, turn % HANDS);
+                for (int i = 0; i < HANDS * rested.people; i++) {
+                    findBest(rested, i / HANDS, i % HANDS);
                     if (bestOdds > asHeld) {
-                        others++;
-                        int held = rested.handOf(turn / HANDS, turn % HANDS);
+                        int held = rested.handOf(i / HANDS, i % HANDS);
                         rested.grips[held] = bestHold / 10;
                         rested.lows[held] = bestHold % 10;
+                        others++;
                     }
                 }
                 if (others == 0) {
-                    return;
+                    round = n;
                 }
             }
         }
