@@ -36,15 +36,19 @@ final class Edge {
         return text.replaceAll("\\s+", " ");
     }
 
-    /** Begins the test of a sentence: it must stand under its promise or in the Terms. */
+    /** Begins the test of a sentence: it must stand under its promise or ahead of all promises. */
     void sentence(int promise, String words) {
         due.is(heading + "has a test", asked > 0, true);
         heading = "promise " + promise + ", \"" + words + "\": ";
-        due.is(heading + "stands in the document", under("## Promise " + promise + ":").contains(words)
-            || under("## Terms").contains(words) || under("## The public face").contains(words), true);
+        due.is(heading + "stands in the document", stands(promise, words), true);
         named[promise] = true;
         asked = 0;
         sentences++;
+    }
+
+    private boolean stands(int promise, String words) {
+        return under("## Promise " + promise + ":").contains(words) || under("## Terms").contains(words)
+            || under("## The public face").contains(words) || under("## What it is").contains(words);
     }
 
     private String under(String title) {

@@ -380,6 +380,28 @@ public final class EdgeCallTest {
             EDGE.is("nobody, rests(" + seat + ", 0)", new CrackerRing().rests(seat, 0), -1);
         }
         EDGE.is("all stays", x.seat(0, 4), 0);
+        restsAnew();
+    }
+
+    /** Behind each ACT that can alter it, behind undo() and restore() and table(), it is found anew. */
+    private static void restsAnew() {
+        CrackerRing x = Due.with(Due.people(9, 9, 0, 0, 9, 9, 0, 0));
+        EDGE.is("rests(0, 0)", x.rests(0, 0), 5);
+        EDGE.is("seats(2)", x.seats(2), 3);
+        x.hold(0, 0, 2, 7);
+        EDGE.is("rests(0, 0) behind hold()", x.rests(0, 0), 27);
+        x.change(0, 1);
+        EDGE.is("rests(1, 0) behind change()", x.rests(1, 0), 27);
+        EDGE.is("seats(2) behind change()", x.seats(2), 2);
+        x.undo();
+        EDGE.is("rests(0, 0) behind undo()", x.rests(0, 0), 27);
+        EDGE.is("seats(2) behind undo()", x.seats(2), 3);
+        Due.restore(x, Due.image(0, 0, 0, 0, 0, 0, 1, 0, 0, 5, 0, 5, 0, 0, 1, 8, 0, 5, 2, 0, 0, 5, 0, 5, 3, 0, 0, 5, 0, 5));
+        EDGE.is("rests(1, 0) behind restore()", x.rests(1, 0), 18);
+        EDGE.is("seats(2) behind restore()", x.seats(2), 2);
+        Due.table(x, Due.people(9, 9, 9, 9, 0, 0, 0, 0) + "holds b right thumb 1;");
+        EDGE.is("rests(1, 0) behind table()", x.rests(1, 0), 21);
+        EDGE.is("seats(2) behind table()", x.seats(2), 2);
     }
 
     private static void thumb() {
@@ -420,6 +442,7 @@ public final class EdgeCallTest {
         EDGE.is("three", Due.with(THREE).pairs(), 2000);
         // nobody 1 of 10000
         EDGE.is("floor", Due.with(TWO + "slip 1;").pairs(), 1000);
+        EDGE.is("nobody 9 of 10000", Due.with(TWO + "slip 3;").pairs(), 1000);
         EDGE.is("nobody 16 of 10000", Due.with(TWO + "slip 4;").pairs(), 1001);
         EDGE.is("one alone", Due.with(ONE).pairs(), -1);
         EDGE.is("nobody", new CrackerRing().pairs(), -1);
@@ -520,6 +543,10 @@ public final class EdgeCallTest {
 
     private static void give() {
         EDGE.sentence(24, "A HAT is given from seat to seat: true; false, refused (3), when there are none such, they are one, he has none, or the other one has 99.");
+        CrackerRing none = hats(0, 1, 98);
+        refused(none, 3, () -> EDGE.is("he has none", none.give(0, 1), false));
+        refused(none, 3, () -> EDGE.is("he has none", none.give(0, 2), false));
+        taken(none, () -> EDGE.is("he has one", none.give(1, 0), true));
         CrackerRing x = hats(1, 98, 99);
         refused(x, 3, () -> EDGE.is("the other one has 99", x.give(1, 2), false));
         taken(x, () -> EDGE.is("the other one has 98", x.give(0, 1), true));
@@ -682,6 +709,9 @@ public final class EdgeCallTest {
                 wrongImage(x, "the last byte is " + b, other);
             }
         }
+        CrackerRing three = Due.with(THREE);
+        wrongImage(three, "the first one in two seats", Due.image(0, 0, 0, 0, 0, 0, 0, 0, 0, 5, 0, 5, 1, 0, 0, 5, 0, 5, 0, 0, 0, 5, 0, 5));
+        wrongImage(three, "the second one in two seats", Due.image(0, 0, 0, 0, 0, 0, 1, 0, 0, 5, 0, 5, 2, 0, 0, 5, 0, 5, 1, 0, 0, 5, 0, 5));
         wrongImage(x, "one byte less", Arrays.copyOf(Due.image(most), 18));
         wrongImage(x, "one byte more", Arrays.copyOf(Due.image(most), 20));
         wrongImage(x, "one byte more ahead of the last", Due.image(Arrays.copyOf(most, 19)));
@@ -760,6 +790,27 @@ public final class EdgeCallTest {
         }
     }
 
+    private static void manyCalls() {
+        EDGE.sentence(1, "An object is used for at most 512 calls after it has been made; what later calls answer is free.");
+        CrackerRing x = new CrackerRing();
+        // "person a right 1 left 1;"
+        x.feed(0x70657273, 0x6f6e2061, 0x20726967, 0x68742031, 0x206c6566);
+        x.feed(0x7420313b, 0, 0, 0, 0);
+        x.end(24);
+        EDGE.is("table() of one alone", x.table(), 1);
+        int calls = 4;
+        for (; calls < 490; calls++) {
+            x.hold(0, calls % 2, calls % 3, calls % 10);
+        }
+        for (; calls < 508; calls++) {
+            EDGE.is("undo()", x.undo(), true);
+        }
+        EDGE.is("the 509th call", x.has(9), 2);
+        EDGE.is("the 510th call", x.seat(0, 7), 471 % 10);
+        EDGE.is("the 511th call", x.seat(0, 6), 470 % 10);
+        EDGE.is("the 512th call", x.status(2), 0);
+    }
+
     private static void constants() {
         EDGE.sentence(29, "public static final long NOTHING = -1000000000000000L;");
         EDGE.is("NOTHING", CrackerRing.NOTHING, -1000000000000000L);
@@ -801,6 +852,7 @@ public final class EdgeCallTest {
         image();
         restore();
         status();
+        manyCalls();
         constants();
         EDGE.allPromises();
         EDGE.end();

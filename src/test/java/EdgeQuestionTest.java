@@ -137,6 +137,9 @@ public final class EdgeQuestionTest {
         EDGE.asks(one, "total wins 0", 0);
         EDGE.asks(one, "total wins 1", 0);
         EDGE.asks(one, "total wins(0-1)", 0);
+        Due.table(x, Due.people(6, 4));
+        EDGE.asks(x, "total wins 0", 0);
+        EDGE.asks(x, "total wins(0-1)", 0);
         x = Due.with(EIGHT);
         EDGE.asks(x, "first wins 7>0", 0);
         EDGE.asks(x, "last wins 7>0", 7);
@@ -228,6 +231,15 @@ public final class EdgeQuestionTest {
         EDGE.asks(x, "total (1)+(1)+(1)+(1)+(1)+(1)+((((((1))))))", 56);
         EDGE.asks(x, "often [all] and [all] and [all] and [all] and [all] and [all] and [[[[[[all]]]]]]", 8);
         EDGE.asks(x, "total min(1,2)+max((((((1))))),2)", 24);
+        for (String left : new String[] {"total ((((((1", "often [[[[[[all", "often not not not not not not", "total wins wins wins wins wins wins"}) {
+            EDGE.is("left open", Due.ask(x, left), CrackerRing.NOTHING);
+            EDGE.asks(x, "total ((((((1))))))", 8);
+        }
+        for (String tooMany : new String[] {"total (((((((1", "often [[[[[[[all", "total wins wins wins wins wins wins wins 1"}) {
+            EDGE.is("too many open", Due.ask(x, tooMany), CrackerRing.NOTHING);
+            EDGE.is("too many open again", Due.ask(x, "total (((((((1)))))))"), CrackerRing.NOTHING);
+            EDGE.is("fault(1)", x.fault(1), 12);
+        }
         // not is open while its FACT, a sign with two SUMS, is read
         EDGE.wrongQuestion(4, "often not not not not not 1=(2) and not not not not not (1)=(^(2))");
         EDGE.wrongQuestion(4, "often not not not not not not 1=^(1)");

@@ -319,6 +319,10 @@ public final class EdgeRingTest {
         x = Due.with(Due.people(0, 2, 0, 99));
         EDGE.tells(x, 0, 0, 99, 0, 0, 0, 10000, 0);
         EDGE.is("none by 0 of 10000", x.most(), 0);
+        x = Due.with(Due.people(99, 0, 9, 1) + seldom);
+        EDGE.tells(x, 0, 99, 1, 0, 99, 9999, 1, 0);
+        EDGE.tells(x, 1, 9, 0, 0, 0, 10000, 0, 0);
+        EDGE.is("one by 1 of 10000, by the left HAND", x.most(), 1);
         EDGE.is("all, under the table", Due.with(alike(8, 1, 1) + "slip 1;").most(), 8);
         EDGE.is("half of eight", Due.with(alike(8, 1, 1)).most(), 4);
         EDGE.is("half of seven", Due.with(alike(7, 1, 1)).most(), 3);
@@ -447,6 +451,13 @@ public final class EdgeRingTest {
         CrackerRing x = roundAndRound(1, 9, 9, 2);
         x.change(0, 1);
         rested(x, 13, 5, 7, 7, 5);
+        // all eight, each HAND of them
+        x = Due.with(alike(8, 9, 9) + "pull arm+low*thumb;");
+        EDGE.is("rests(NONE, 0) of eight", x.rests(-1, 0), 2);
+        for (int seat = 0; seat < 8; seat++) {
+            EDGE.is("rests(" + seat + ", 0) of eight", x.rests(seat, 0), 29);
+            EDGE.is("rests(" + seat + ", 1) of eight", x.rests(seat, 1), 29);
+        }
     }
 
     private static void asItHolds() {
@@ -491,6 +502,11 @@ public final class EdgeRingTest {
         x = Due.with(Due.people(1, 1, 0, 0) + "pull arm*thumb;slip 100*seam;");
         EDGE.is("all to 0", x.thumb(0, 0, 1, 1), 1000);
         EDGE.is("0 to all", x.thumb(0, 0, 1, 0), 0);
+        // the thumb by 1 of 10000, the seam never
+        x = Due.with(Due.people(1, 99, 99, 99) + "slip (99*thumb+100*seam)*(2-min(2,arm));");
+        EDGE.is("1 to 0", x.thumb(0, 0, 1, 1), 1000);
+        x.hold(0, 0, 2, 5);
+        EDGE.tells(x, 0, 1, 99, 99, 0, 1, 9999, 0);
     }
 
     private static void duds() {
@@ -509,6 +525,7 @@ public final class EdgeRingTest {
         EDGE.is("two alike", x.duds(6, 0, 0), 0);
         EDGE.is("two alike", x.duds(6, 0, 1), 500);
         EDGE.is("floor", Due.with("box a duds 1;box b duds 2;").duds(1, 1, 1), 666);
+        EDGE.is("1 to 0", Due.with("box a duds 0;box b duds 1;").duds(1, 1, 1), 1000);
     }
 
     private static void gifts() {

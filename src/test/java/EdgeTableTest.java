@@ -59,10 +59,20 @@ public final class EdgeTableTest {
         x = EDGE.fine(ONE + "holds a right thumb 1;", 2);
         EDGE.is("seam without", x.seat(0, 5), 0);
         EDGE.is("5 without", x.seat(0, 7), 5);
-        x = Due.with(ONE + "holds a right thumb 1;holds a left thumb 1;");
-        Due.table(x, ONE);
-        EDGE.is("seam without, in the next TABLE", x.seat(0, 4), 0);
-        EDGE.is("5 without, in the next TABLE", x.seat(0, 7), 5);
+        x = behindOthers(ONE + "holds a right thumb 1;holds a left thumb 1;", ONE);
+        EDGE.is("seam without, behind other TABLES", x.seat(0, 4), 0);
+        EDGE.is("seam without, behind other TABLES", x.seat(0, 5), 0);
+        EDGE.is("5 without, behind other TABLES", x.seat(0, 6), 5);
+        EDGE.is("5 without, behind other TABLES", x.seat(0, 7), 5);
+    }
+
+    /** An object with a TABLE, behind another one told twice, and once with a FAULT at its end. */
+    private static CrackerRing behindOthers(String other, String text) {
+        CrackerRing x = Due.with(other);
+        Due.table(x, other);
+        Due.table(x, other + "x");
+        EDGE.is("table() of '" + text + "'", Due.table(x, text) >= 0, true);
+        return x;
     }
 
     private static void boxes() {
@@ -75,6 +85,7 @@ public final class EdgeTableTest {
         EDGE.fault(2, "box a duds ^101;");
         EDGE.fault(5, "box a duds 0;box b duds 100;box c duds 1;box d duds 99;^box e duds 1;");
         EDGE.is("none without", EDGE.fine(ONE, 1).has(2), 0);
+        EDGE.is("none without, behind other TABLES", behindOthers("box a duds 0;box b duds 1;", ONE).has(2), 0);
     }
 
     private static void hats() {
@@ -87,8 +98,7 @@ public final class EdgeTableTest {
         EDGE.fault(2, ONE + "hats a ^10;");
         EDGE.fault(3, ONE + "hats ^b 1;");
         EDGE.fault(3, ONE + "box b duds 1;hats ^b 1;");
-        Due.table(x, Due.people(1, 1, 1, 1, 1, 1));
-        EDGE.is("0 without, in the next TABLE", x.has(7), 0);
+        EDGE.is("0 without, behind other TABLES", behindOthers(TWO + "hats a 2;hats b 1;", TWO).has(7), 0);
     }
 
     private static void oneEach() {
@@ -99,8 +109,9 @@ public final class EdgeTableTest {
         EDGE.fault(5, "pull 7;slip 8;^slip 8;");
         EDGE.fault(1, "pull ^;");
         EDGE.fault(1, "slip ^;");
-        Due.table(x, TWO);
-        EDGE.tells(x, 0, 6, 2, 0, 0);
+        EDGE.tells(behindOthers(TWO + "pull 7;slip 8;", TWO), 0, 6, 2, 0, 0);
+        EDGE.tells(behindOthers(TWO + "pull 7;slip 8;", TWO + "pull 1;"), 0, 1, 1, 0, 0);
+        EDGE.tells(behindOthers(TWO + "pull 7;slip 8;", TWO + "slip 1;"), 0, 6, 2, 1, 1);
     }
 
     private static void bang() {
@@ -110,8 +121,8 @@ public final class EdgeTableTest {
         CrackerRing x = EDGE.fine("bang 100;bang 7;bang 8;", 3);
         EDGE.is("the last one", x.has(3), 8);
         EDGE.fault(2, "bang ^101;");
-        Due.table(x, "");
-        EDGE.is("100 without", x.has(3), 100);
+        EDGE.is("100 without", EDGE.fine("", 0).has(3), 100);
+        EDGE.is("100 without, behind other TABLES", behindOthers("bang 9;", "").has(3), 100);
     }
 
     private static void digits() {
@@ -134,6 +145,10 @@ public final class EdgeTableTest {
         EDGE.tells(EDGE.fine(held + "pull paper;", 5), 0, 0, 0);
         EDGE.tells(EDGE.fine(held + "pull thumb;", 5), 0, 0, 1);
         EDGE.tells(EDGE.fine(TWO + "holds a right paper 1;pull paper+10*seam+10*thumb;", 4), 0, 1, 10);
+        CrackerRing x = Due.with(held);
+        EDGE.asks(x, "total hats*right+left+number+thumb", 4 + 2 + 1 + 1);
+        EDGE.is("table() behind a QUESTION", Due.table(x, held + "pull arm*10+low;"), 5);
+        EDGE.tells(x, 0, 60, 29);
     }
 
     private static int sum(String sum) {
@@ -243,8 +258,9 @@ public final class EdgeTableTest {
         EDGE.fault(3, "box a duds 1;box b duds 1;box c duds 1;box d duds 1;person ^d right 1 left 1;");
         EDGE.fine("person a right 1 left 1;person aa right 1 left 1;person b right 1 left 1;box ab duds 1;box ba duds 1;", 5);
         EDGE.fine("person abcdef right 1 left 1;person abcdeg right 1 left 1;person bbcdef right 1 left 1;box abcde duds 1;", 4);
-        CrackerRing x = EDGE.fine("person a right 1 left 1;", 1);
-        EDGE.is("the next TABLE gives them anew", Due.table(x, "box a duds 1;"), 1);
+        EDGE.fine("box a duds 1;box b duds 1;box c duds 1;box d duds 1;person e right 1 left 1;", 5);
+        EDGE.is("the next TABLE gives them anew", behindOthers("box b duds 1;box a duds 1;", "person a right 1 left 1;").has(0), 1);
+        EDGE.is("the next TABLE gives them anew", behindOthers(TWO, "box a duds 1;box b duds 1;").has(2), 2);
     }
 
     private static void toldAhead() {
@@ -252,8 +268,8 @@ public final class EdgeTableTest {
         EDGE.fault(3, "hats ^a 1;person a right 1 left 1;");
         EDGE.fault(3, "holds ^a right seam 1;person a right 1 left 1;");
         EDGE.fine("person a right 1 left 1;hats a 1;holds a right seam 1;", 3);
-        CrackerRing x = EDGE.fine(ONE, 1);
-        EDGE.is("not those of the TABLE before", Due.table(x, "hats a 1;"), -1);
+        CrackerRing x = behindOthers(ONE, "bang 1;");
+        EDGE.is("not those of the TABLES before", Due.table(x, "hats a 1;"), -1);
         EDGE.is("fault(0)", x.fault(0), 3);
     }
 
@@ -307,6 +323,12 @@ public final class EdgeTableTest {
         EDGE.fault(1, "person a ^left 1 right 1;");
         EDGE.fault(1, "person a right ^one left 1;");
         EDGE.fault(1, "person a right 1 ^1;");
+        EDGE.fault(1, "person a right ^left 1;");
+        EDGE.fault(1, "person a right 1 left^;");
+        EDGE.fault(1, "box b duds^;");
+        EDGE.fault(1, ONE + "hats a^;");
+        EDGE.fault(1, ONE + "holds a right seam^;");
+        EDGE.fault(1, "bang ^;");
         EDGE.fault(1, "bang ^low;");
         EDGE.fault(1, "bang 1 ^2;");
         EDGE.fault(1, "bang 1 ^bang 1;");
@@ -318,6 +340,8 @@ public final class EdgeTableTest {
         EDGE.fault(1, "pull (^);");
         EDGE.fault(1, "pull 1*^*1;");
         EDGE.fault(1, "pull min ^1,2;");
+        EDGE.fault(1, "pull min^;");
+        EDGE.fault(1, "pull max^+1;");
         EDGE.fault(1, "pull min(1^);");
         EDGE.fault(1, "pull max(1,2^,3);");
         EDGE.fault(1, "pull max(^,3);");
@@ -383,6 +407,8 @@ public final class EdgeTableTest {
         EDGE.wrongQuestion(1, "^");
         EDGE.wrongQuestion(1, " ^");
         EDGE.wrongQuestion(1, "total ^");
+        EDGE.wrongQuestion(1, "total min^");
+        EDGE.wrongQuestion(1, "total max ^");
         EDGE.wrongQuestion(1, "total min(1,^");
         EDGE.wrongQuestion(1, "often 1<^");
         EDGE.wrongQuestion(1, "often 1^");
@@ -432,6 +458,10 @@ public final class EdgeTableTest {
         EDGE.fault(4, "pull ((((((1))))))-((((((max ^(1,2)))))));");
         EDGE.fault(1, "pull ((((((min ^1");
         EDGE.fault(1, "pull ((((((1))))))^);");
+        EDGE.is("counted anew", behindOthers("pull ((((((1))))));", "slip ((((((1))))));").fault(0), 0);
+        CrackerRing x = Due.with(ONE);
+        EDGE.is("left open", Due.table(x, "pull ((((((1"), -1);
+        EDGE.is("counted anew", Due.table(x, "pull ((((((1))))));"), 1);
     }
 
     private static void tooManyOfAKind() {
