@@ -305,6 +305,14 @@ public final class EdgeCallTest {
         EDGE.is("of who sits there then", y.odds(0, 1) == first, false);
     }
 
+    /** Two who have none by 2774 * 7217 and by 3917 * 7373, together 48899999 of 10000 * 10000. */
+    private static CrackerRing nearlyWhole() {
+        CrackerRing x = Due.with(Due.people(3, 54, 21, 49) + "pull 1;slip arm;");
+        EDGE.tells(x, 0, 1, 1, 3, 49, 7226, 2627, 147);
+        EDGE.tells(x, 1, 1, 1, 21, 54, 6083, 2783, 1134);
+        return x;
+    }
+
     private static void mean() {
         EDGE.sentence(12, "ON THE MEAN so many PEOPLE have so many HATS (0 .. 2) by a DINNER, in thousandths (floor); NONE when that can't be, or without a CRACKER.");
         CrackerRing x = Due.with(Due.people(1, 2, 1, 2) + "slip 1;");
@@ -312,6 +320,7 @@ public final class EdgeCallTest {
         EDGE.is("mean(1)", x.mean(1), 1111);
         EDGE.is("mean(2)", x.mean(2), 444);
         EDGE.alone("mean()", 0, 2, x::mean);
+        EDGE.is("just below 489", nearlyWhole().mean(0), 488);
         for (int hats = 0; hats < 3; hats++) {
             EDGE.is("one alone", Due.with(ONE).mean(hats), -1);
             EDGE.is("nobody", new CrackerRing().mean(hats), -1);
@@ -332,6 +341,7 @@ public final class EdgeCallTest {
         EDGE.is("seats(NONE)", x.seats(CrackerRing.NONE), 582);
         EDGE.is("seats(1)", x.seats(1), 2);
         EDGE.alone("seats()", -1, 2, x::seats);
+        EDGE.is("just below 489", nearlyWhole().seats(-1), 488);
         x.change(1, 2);
         EDGE.is("by his seat now", x.seats(1), 1);
         EDGE.is("the same", x.seats(-1), 582);
