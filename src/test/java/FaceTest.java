@@ -67,6 +67,46 @@ public final class FaceTest {
         DUE.is("NOTHING", CrackerRing.NOTHING, -1000000000000000L);
     }
 
+    /** What of LANGUAGE.md can be seen of the outer class and of each one inside: rules 2, 3, 5, 11. */
+    private static void shapes() {
+        shape(CrackerRing.class);
+        for (Class<?> inside : CrackerRing.class.getDeclaredClasses()) {
+            shape(inside);
+            DUE.is("none inside " + inside, inside.getDeclaredClasses().length, 0);
+        }
+    }
+
+    private static void shape(Class<?> one) {
+        int fields = 0;
+        for (Field f : one.getDeclaredFields()) {
+            boolean fixed = Modifier.isStatic(f.getModifiers());
+            fields += fixed ? 0 : 1;
+            DUE.is("static ones are final: " + f, !fixed || Modifier.isFinal(f.getModifiers()), true);
+            DUE.is("of one dimension: " + f, f.getType().getTypeName().endsWith("[][]"), false);
+        }
+        DUE.is("twenty fields at most: " + one, fields <= 20, true);
+        for (Method m : one.getDeclaredMethods()) {
+            DUE.is("seven parameters at most: " + m, m.getParameterCount() <= 7, true);
+        }
+    }
+
+    /** No method is longer than sixty lines: from a line that opens at a depth of one or two classes to the one that closes. */
+    private static void lengths() throws IOException {
+        List<String> lines = Files.readAllLines(Path.of("src/main/java/CrackerRing.java"), StandardCharsets.UTF_8);
+        for (String margin : new String[] {"    ", "        "}) {
+            int opened = -1;
+            for (int i = 0; i < lines.size(); i++) {
+                String line = lines.get(i);
+                if (line.matches(margin + "\\S.*\\) \\{")) {
+                    opened = i;
+                } else if (opened >= 0 && line.equals(margin + "}")) {
+                    DUE.is("sixty lines at most: " + lines.get(opened), i - opened < 60, true);
+                    opened = -1;
+                }
+            }
+        }
+    }
+
     private static void words() throws IOException {
         String source = Files.readString(Path.of("src/main/java/CrackerRing.java"), StandardCharsets.UTF_8);
         String code = source.replaceAll("(?s)/\\*.*?\\*/", "").replaceAll("//[^\n]*", "");
@@ -134,6 +174,8 @@ public final class FaceTest {
 
     public static void main(String[] args) throws IOException {
         members();
+        shapes();
+        lengths();
         words();
         wild();
         DUE.end();
